@@ -1,0 +1,211 @@
+/** Promises 9 to 13: type, clearText, undo, keep and restore. */
+public final class TextsAndHistoryTest {
+    public static void main(String[] args) {
+        type();
+        clearText();
+        textsAreNoActs();
+        undo();
+        undoRestoresAllOfAState();
+        errorsRecordNothing();
+        keep();
+        restore();
+        restoreIsAnAct();
+        snapshotStaysAsItWas();
+        Checks.finish("TextsAndHistoryTest");
+    }
+
+    private static void type() {
+        LiftBeams lift = new LiftBeams();
+        for (int length = 1; length <= 60; length++) {
+            Checks.due("type()", lift.type((char) (length * 1091)), length);
+            Checks.due("the length", lift.count(10), length);
+        }
+        Checks.due("a character more", lift.type('0'), LiftBeams.FULL);
+        Checks.due("the length", lift.count(10), 60);
+    }
+
+    private static void clearText() {
+        LiftBeams lift = new LiftBeams();
+        Checks.due("clearText() of none", lift.clearText(), 0);
+        Checks.typeText(lift, "12345");
+        Checks.due("clearText()", lift.clearText(), 5);
+        Checks.due("the length", lift.count(10), 0);
+        Checks.due("clearText() again", lift.clearText(), 0);
+        Checks.due("readBeams() of none", lift.readBeams(), -100);
+        Checks.due("type() after it", lift.type('3'), 1);
+        Checks.due("readBeams()", lift.readBeams(), 1);
+        Checks.due("the low beam", lift.thing(1), 1);
+    }
+
+    private static void textsAreNoActs() {
+        LiftBeams lift = Checks.withText("12");
+        lift.clearText();
+        Checks.due("the states", lift.count(9), 0);
+        lift.call();
+        lift.type('1');
+        Checks.due("undo()", lift.undo(), 0);
+        Checks.due("undo() leaves the text", lift.count(10), 1);
+        lift.keep();
+        lift.type('2');
+        lift.restore();
+        Checks.due("restore() leaves the text", lift.count(10), 2);
+    }
+
+    private static void undo() {
+        LiftBeams lift = new LiftBeams();
+        Checks.due("undo() of none", lift.undo(), LiftBeams.NONE);
+        for (int act = 1; act <= 6; act++) {
+            lift.pass(0, act);
+            Checks.due("the states", lift.count(9), Math.min(act, 4));
+        }
+        int[] ticks = {15, 10, 6, 3};
+        for (int back = 0; back < 4; back++) {
+            Checks.due("undo()", lift.undo(), 3 - back);
+            Checks.due("the tick", lift.count(0), ticks[back]);
+        }
+        Checks.due("undo() of what was dropped", lift.undo(), LiftBeams.NONE);
+        Checks.due("the tick", lift.count(0), 3);
+        lift.pass(0, 7);
+        Checks.due("undo() after acts", lift.undo(), 0);
+        Checks.due("the tick", lift.count(0), 3);
+    }
+
+    private static void undoRestoresAllOfAState() {
+        LiftBeams lift = Checks.closing();
+        lift.pass(3, 2);
+        int[] before = tellAll(lift);
+        Checks.due("a call in between", lift.call(), LiftBeams.NOT_POSSIBLE);
+        lift.pass(0, 50);
+        lift.undo();
+        same("after undo() of pass()", tellAll(lift), before);
+        lift.setSpeed(2, Checks.bits(7.0f));
+        lift.undo();
+        lift.setWeight(2, Checks.bits(0.7f));
+        lift.undo();
+        lift.setNumber(4, 9);
+        lift.undo();
+        same("after undo() of the settings", tellAll(lift), before);
+        lift.pass(0, 3);
+        before = tellAll(lift);
+        lift.pass(1, 9);
+        lift.pass(0, 3);
+        lift.undo();
+        lift.undo();
+        same("after undo() of a thing that was judged", tellAll(lift), before);
+    }
+
+    private static void errorsRecordNothing() {
+        LiftBeams lift = new LiftBeams();
+        lift.setSpeed(3, 0);
+        lift.setSpeed(0, 0);
+        lift.setSpeed(0, Checks.bits(10.0f));
+        lift.setWeight(4, 0);
+        lift.setWeight(0, -1);
+        lift.setWeight(0, Checks.bits(1.0f));
+        lift.setNumber(5, 0);
+        lift.setNumber(0, 0);
+        lift.setNumber(0, 5);
+        lift.serve();
+        lift.pass(0, 0);
+        lift.readBeams();
+        lift.restore();
+        lift.keep();
+        lift.shutsIn();
+        lift.placeIn(7, 9);
+        lift.undo();
+        Checks.due("the states", lift.count(9), 0);
+        Checks.due("the tick", lift.count(0), 0);
+    }
+
+    private static void keep() {
+        LiftBeams lift = new LiftBeams();
+        Checks.due("keep()", lift.keep(), 0);
+        lift.pass(5, 33);
+        Checks.due("keep() is no act", lift.count(9), 1);
+        Checks.due("keep()", lift.keep(), 33);
+        Checks.due("keep() again", lift.keep(), 33);
+        lift.pass(5, 1);
+        Checks.due("the latest snapshot", lift.restore(), 33);
+    }
+
+    private static void restore() {
+        LiftBeams lift = Checks.closing();
+        Checks.due("restore() of none", lift.restore(), LiftBeams.NONE);
+        lift.pass(6, 1);
+        lift.setNumber(2, 4);
+        int[] before = tellAll(lift);
+        Checks.due("keep()", lift.keep(), 16);
+        lift.pass(6, 30);
+        lift.pass(0, 30);
+        lift.setNumber(2, 1);
+        lift.setSpeed(1, Checks.bits(1.0f));
+        Checks.due("restore()", lift.restore(), 16);
+        same("after restore()", tellAll(lift), before);
+        lift.pass(1, 1);
+        Checks.due("the snapshot stays", lift.restore(), 16);
+        same("after restore() again", tellAll(lift), before);
+    }
+
+    private static void restoreIsAnAct() {
+        LiftBeams lift = new LiftBeams();
+        lift.keep();
+        Checks.due("restore() of the same", lift.restore(), 0);
+        Checks.due("it is an act", lift.count(9), 1);
+        lift.pass(0, 8);
+        lift.restore();
+        Checks.due("the states", lift.count(9), 3);
+        Checks.due("undo()", lift.undo(), 2);
+        Checks.due("the tick ahead of restore()", lift.count(0), 8);
+        lift.pass(0, 1);
+        lift.pass(0, 1);
+        lift.restore();
+        lift.restore();
+        Checks.due("at most 4 states", lift.count(9), 4);
+    }
+
+    private static void snapshotStaysAsItWas() {
+        LiftBeams lift = new LiftBeams();
+        lift.pass(7, 1);
+        lift.keep();
+        lift.undo();
+        Checks.due("the tick", lift.count(0), 0);
+        Checks.due("undo() leaves the snapshot", lift.restore(), 1);
+        Checks.due("the history is no part of it", lift.count(9), 1);
+        lift.pass(7, 5);
+        Checks.due("nor is it changed", lift.restore(), 1);
+        Checks.due("the length", lift.thing(0), 1);
+    }
+
+    private static int[] tellAll(LiftBeams lift) {
+        int[] told = new int[60];
+        int next = 0;
+        for (int which = 0; which < 4; which++) {
+            told[next++] = Checks.bits(lift.speed(which));
+            told[next++] = Float.floatToIntBits(lift.weight(which));
+            told[next++] = Float.floatToIntBits(lift.score(which));
+        }
+        for (int which = 0; which < 5; which++) {
+            told[next++] = lift.number(which);
+            told[next++] = lift.judged(0, which);
+            told[next++] = lift.judged(1, which);
+        }
+        for (int what = 0; what < 6; what++) {
+            told[next++] = lift.door(what);
+        }
+        for (int what = 0; what < 8; what++) {
+            told[next++] = lift.thing(what);
+        }
+        for (int what = 0; what < 9; what++) {
+            told[next++] = lift.count(what);
+        }
+        told[next++] = Checks.bits(lift.place());
+        told[next++] = lift.shutsIn();
+        return told;
+    }
+
+    private static void same(String what, int[] got, int[] want) {
+        for (int i = 0; i < want.length; i++) {
+            Checks.due(what + ": row " + i, got[i], want[i]);
+        }
+    }
+}
