@@ -205,7 +205,7 @@ public final class LiftBeams {
         if (kind < 0 || kind >= KINDS || !now.thing.there) {
             return notANumber();
         }
-        return now.thing.product(kind, now.settings);
+        return now.thing.product(kind, now.settings.weightOf(kind));
     }
 
     public int number(int which) {
@@ -488,9 +488,9 @@ public final class LiftBeams {
 
         int likeliestKind(Settings settings) {
             int best = LEAF;
-            float bestProduct = product(LEAF, settings);
+            float bestProduct = product(LEAF, settings.weightOf(LEAF));
             for (int kind = LEAF + 1; kind < KINDS; kind++) {
-                float product = product(kind, settings);
+                float product = product(kind, settings.weightOf(kind));
                 if (product > bestProduct) {
                     best = kind;
                     bestProduct = product;
@@ -499,8 +499,8 @@ public final class LiftBeams {
             return best;
         }
 
-        float product(int kind, Settings settings) {
-            return likeness(kind) * settings.weightOf(kind);
+        float product(int kind, float weight) {
+            return likeness(kind) * weight;
         }
 
         int beamsBroken() {
@@ -525,18 +525,14 @@ public final class LiftBeams {
             float lowShare = (float) low / (float) sum;
             float middleShare = (float) middle / (float) sum;
             float highShare = (float) high / (float) sum;
+            float lesserShare = lowShare < middleShare ? lowShare : middleShare;
             switch (kind) {
                 case LEAF: return 1.0f / (float) length;
                 case HAND: return (1.0f - lowShare) * 0.75f;
                 case DOG: return lowShare * (1.0f - highShare);
-                case PERSON: return 3.0f * least(lowShare, middleShare, highShare);
+                case PERSON: return 3.0f * (highShare < lesserShare ? highShare : lesserShare);
                 default: return 0.0f;
             }
-        }
-
-        private static float least(float a, float b, float c) {
-            float lesser = a < b ? a : b;
-            return lesser < c ? lesser : c;
         }
     }
 

@@ -11,6 +11,7 @@ public final class DoorTest {
         brokenBeamsKeepTheDoorOpen();
         patience();
         brokenBeamsHoldTheDoorWhileItIsPatient();
+        standsAnewWhenItClosesAnew();
         closesSlowlyBehindTheLimit();
         callsForServiceBehindTheRest();
         serviceKeepsTheDoorOpen();
@@ -188,6 +189,16 @@ public final class DoorTest {
         Checks.due("no cause", lift.thing(6), 0);
     }
 
+    private static void standsAnewWhenItClosesAnew() {
+        LiftBeams lift = Checks.closing();
+        lift.pass(2, 2);
+        lift.pass(0, 6);
+        Checks.due("it closes again", lift.door(0), 3);
+        Checks.due("stood", lift.door(4), 0);
+        Checks.due("it is patient again", lift.pass(2, 1), 3);
+        Checks.due("stood", lift.door(4), 1);
+    }
+
     private static void closesSlowlyBehindTheLimit() {
         LiftBeams lift = Checks.quickClosing(1, 5);
         lift.pass(7, 1);
@@ -331,6 +342,10 @@ public final class DoorTest {
         lift.clearText();
         Checks.typeText(lift, "0,0,0,0,0,0,0,0,0,0,0,0,0,0,0,0,0,0,0,0,0,0,0,0,0,0,0,0,0,0");
         Checks.due("30 parts", lift.readBeams(), 30);
+        lift.clearText();
+        lift.type('0');
+        Checks.due("fewer parts than the text before", lift.readBeams(), 1);
+        Checks.due("the tick", lift.count(0), 31);
     }
 
     private static void faults() {
@@ -378,6 +393,15 @@ public final class DoorTest {
         Checks.due("the tick", lift.count(0), 99999);
         Checks.due("one tick more", lift.pass(0, 1), LiftBeams.FULL);
         Checks.due("readBeams()", lift.readBeams(), LiftBeams.FULL);
+        lift.undo();
+        lift.clearText();
+        Checks.typeText(lift, "3*4,0*6");
+        Checks.due("readBeams() up to 100000", lift.readBeams(), LiftBeams.FULL);
+        Checks.due("the tick", lift.count(0), 99990);
+        lift.clearText();
+        Checks.typeText(lift, "3*4,0*5");
+        Checks.due("readBeams() up to 99999", lift.readBeams(), 9);
+        Checks.due("the tick", lift.count(0), 99999);
         lift.clearText();
         Checks.due("the fault ahead of FULL", lift.readBeams(), -100);
         lift.type('0');

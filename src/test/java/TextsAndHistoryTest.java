@@ -6,6 +6,9 @@ public final class TextsAndHistoryTest {
         textsAreNoActs();
         undo();
         undoRestoresAllOfAState();
+        undoRestoresEachSetting();
+        undoRestoresEachCount();
+        undoRestoresAllOfTheLog();
         errorsRecordNothing();
         keep();
         restore();
@@ -92,6 +95,84 @@ public final class TextsAndHistoryTest {
         lift.undo();
         lift.undo();
         same("after undo() of a thing that was judged", tellAll(lift), before);
+    }
+
+    private static void undoRestoresEachSetting() {
+        LiftBeams lift = new LiftBeams();
+        int[] before = tellAll(lift);
+        int[] values = {7, 3, 3, 3, 7};
+        for (int which = 0; which < 5; which++) {
+            lift.setNumber(which, values[which]);
+            lift.undo();
+            same("after undo() of number " + which, tellAll(lift), before);
+        }
+        for (int kind = 0; kind < 4; kind++) {
+            lift.setWeight(kind, Checks.bits(2.5f));
+            lift.undo();
+            same("after undo() of weight " + kind, tellAll(lift), before);
+        }
+        for (int which = 0; which < 3; which++) {
+            lift.setSpeed(which, Checks.bits(2.5f));
+            lift.undo();
+            same("after undo() of speed " + which, tellAll(lift), before);
+        }
+    }
+
+    private static void undoRestoresEachCount() {
+        LiftBeams lift = Checks.quickClosing(0, 0);
+        lift.pass(7, 9);
+        lift.pass(0, 3);
+        Checks.due("a person", lift.judged(0, 0), 3);
+        Checks.due("a call for service", lift.door(2), 1);
+        int[] before = tellAll(lift);
+        lift.pass(7, 7);
+        lift.pass(0, 3);
+        lift.serve();
+        lift.undo();
+        lift.undo();
+        lift.undo();
+        same("after undo() of a person and serve()", tellAll(lift), before);
+        lift.undo();
+        Checks.due("no person judged", lift.count(4), 0);
+        Checks.due("the thing began", lift.thing(4), 3);
+        Checks.due("no undo() is left", lift.count(9), 0);
+        LiftBeams called = Checks.quickClosing(0, 0);
+        called.pass(7, 1);
+        called.undo();
+        Checks.due("no call for service so far", called.count(7), 0);
+        Checks.due("no call for service", called.door(2), 0);
+        called.pass(0, 5);
+        called.pass(2, 1);
+        called.keep();
+        called.pass(0, 3);
+        called.pass(2, 1);
+        called.restore();
+        Checks.due("the thing of the snapshot began", called.thing(4), 8);
+    }
+
+    private static void undoRestoresAllOfTheLog() {
+        LiftBeams lift = Checks.withText("1,0*3,2*2,0*3,3*3,0*3,4*4,0*3,5*5,0*3,6*6,0*3,7*7,0*3,1*8,0");
+        lift.pass(4, 2);
+        lift.pass(0, 3);
+        lift.readBeams();
+        lift.pass(0, 3);
+        lift.pass(5, 5);
+        lift.pass(0, 3);
+        int[] before = tellLog(lift);
+        Checks.due("10 things are known", before[49], 4);
+        lift.pass(7, 1);
+        lift.pass(0, 3);
+        Checks.due("another one is the oldest", lift.judged(9, 1), 5);
+        lift.undo();
+        same("after undo()", tellLog(lift), before);
+    }
+
+    private static int[] tellLog(LiftBeams lift) {
+        int[] told = new int[55];
+        for (int row = 0; row < told.length; row++) {
+            told[row] = lift.judged(row / 5, row % 5);
+        }
+        return told;
     }
 
     private static void errorsRecordNothing() {
