@@ -65,6 +65,20 @@ final class Checks {
         return lift;
     }
 
+    /** A shut door with an empty text, and a full history, in a tick from 97811 to 99999. */
+    static LiftBeams atTick(int tick) {
+        LiftBeams lift = withText("0*99,0*99,0*99,0*99,0*99,0*99,0*99,0*99,0*99,0*99,0*99,0*9,0");
+        for (int time = 1; time <= 89; time++) {
+            lift.readBeams();
+        }
+        for (int left = tick - lift.count(0); left > 0; left -= 99) {
+            lift.pass(0, Math.min(left, 99));
+        }
+        lift.clearText();
+        due("the tick to begin with", lift.count(0), tick);
+        return lift;
+    }
+
     static void finish(String name) {
         System.out.println(name + ": " + checked + " answers, " + wrong + " wrong");
         if (wrong != 0) {

@@ -4,16 +4,16 @@ public final class ExtremesTest {
         11, 60, 1000, 0x40000000, Integer.MAX_VALUE - 1, Integer.MAX_VALUE};
 
     public static void main(String[] args) {
-        LiftBeams lift = Checks.closing();
-        lift.pass(3, 1);
         for (int outside : OUTSIDE) {
+            LiftBeams lift = Checks.closing();
+            lift.pass(3, 1);
             oneArgument(lift, outside);
             for (int other : OUTSIDE) {
                 twoArguments(lift, outside, other);
             }
+            Checks.due("the states of three acts", lift.count(9), 3);
+            Checks.due("the tick", lift.count(0), 16);
         }
-        Checks.due("the states of three acts", lift.count(9), 3);
-        Checks.due("the tick", lift.count(0), 16);
         Checks.finish("ExtremesTest");
     }
 

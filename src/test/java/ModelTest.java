@@ -1,13 +1,16 @@
 /** All promises: long runs of calls on a LiftBeams and on the Model, which must answer alike. */
 public final class ModelTest {
-    private static final int RUNS = 600;
-    private static final int CALLS = 380;
+    private static final int RUNS = 2000;
+    private static final int MOST_CALLS = 512;
+    private static final int CALLS_OF_TELL_ALL = 13 * 12 + 2;
+    private static final int MOST_CALLS_OF_STEP = 8;
 
     private long seed;
     private final LiftBeams lift = new LiftBeams();
     private final Model model = new Model();
     private final int run;
     private final StringBuilder calls = new StringBuilder();
+    private int made;
     private final boolean quick;
 
     // How often what is rare was met, so that the runs can't miss it unseen.
@@ -42,15 +45,17 @@ public final class ModelTest {
         if (quick) {
             setQuick();
         }
-        for (int call = 0; call < (run % 20 == 0 ? 120 : CALLS); call++) {
-            int before = lift.door(1);
-            int leaves = lift.count(1);
+        // The answers of an object are promised for 512 calls, and the last of them are kept for tellAll().
+        while (made < MOST_CALLS - CALLS_OF_TELL_ALL - MOST_CALLS_OF_STEP) {
+            int before = model.door(1);
+            int leaves = model.count(1);
             step();
-            services += lift.door(2);
-            slow += lift.speed(3) == lift.speed(2) ? 1 : 0;
-            leavesTakenBack += lift.door(1) < before && lift.count(1) > leaves && lift.door(0) != 0 ? 1 : 0;
+            services += model.door(2);
+            slow += model.speed(3) == model.speed(2) ? 1 : 0;
+            leavesTakenBack += model.door(1) < before && model.count(1) > leaves && model.door(0) != 0 ? 1 : 0;
         }
         tellAll();
+        Checks.due("calls of run " + run + " up to 512", made <= MOST_CALLS ? 1 : 0, 1);
     }
 
     /** A number from 0 up to, but without, the bound; the same ones in every run of the test. */
@@ -211,11 +216,13 @@ public final class ModelTest {
     }
 
     private void same(String call, int got, int want) {
+        made++;
         calls.append(' ').append(call);
         Checks.due(got == want ? call : "run " + run + ":" + calls, got, want);
     }
 
     private void sameFloat(String call, float got, float want) {
+        made++;
         calls.append(' ').append(call);
         Checks.dueFloat(Float.compare(got, want) == 0 ? call : "run " + run + ":" + calls, got, want);
     }

@@ -76,45 +76,47 @@ public final class TextsAndHistoryTest {
     private static void undoRestoresAllOfAState() {
         LiftBeams lift = Checks.closing();
         lift.pass(3, 2);
-        int[] before = tellAll(lift);
+        Told before = Told.stateOf(lift);
         Checks.due("a call in between", lift.call(), LiftBeams.NOT_POSSIBLE);
         lift.pass(0, 50);
         lift.undo();
-        same("after undo() of pass()", tellAll(lift), before);
+        Told.stateOf(lift).mustBe("after undo() of pass()", before);
         lift.setSpeed(2, Checks.bits(7.0f));
         lift.undo();
         lift.setWeight(2, Checks.bits(0.7f));
         lift.undo();
         lift.setNumber(4, 9);
         lift.undo();
-        same("after undo() of the settings", tellAll(lift), before);
+        Told.stateOf(lift).mustBe("after undo() of the settings", before);
         lift.pass(0, 3);
-        before = tellAll(lift);
+        before = Told.stateOf(lift);
         lift.pass(1, 9);
         lift.pass(0, 3);
         lift.undo();
         lift.undo();
-        same("after undo() of a thing that was judged", tellAll(lift), before);
+        Told.stateOf(lift).mustBe("after undo() of a thing that was judged", before);
     }
 
     private static void undoRestoresEachSetting() {
-        LiftBeams lift = new LiftBeams();
-        int[] before = tellAll(lift);
+        Told before = Told.stateOf(new LiftBeams());
         int[] values = {7, 3, 3, 3, 7};
         for (int which = 0; which < 5; which++) {
+            LiftBeams lift = new LiftBeams();
             lift.setNumber(which, values[which]);
             lift.undo();
-            same("after undo() of number " + which, tellAll(lift), before);
+            Told.stateOf(lift).mustBe("after undo() of number " + which, before);
         }
         for (int kind = 0; kind < 4; kind++) {
+            LiftBeams lift = new LiftBeams();
             lift.setWeight(kind, Checks.bits(2.5f));
             lift.undo();
-            same("after undo() of weight " + kind, tellAll(lift), before);
+            Told.stateOf(lift).mustBe("after undo() of weight " + kind, before);
         }
         for (int which = 0; which < 3; which++) {
+            LiftBeams lift = new LiftBeams();
             lift.setSpeed(which, Checks.bits(2.5f));
             lift.undo();
-            same("after undo() of speed " + which, tellAll(lift), before);
+            Told.stateOf(lift).mustBe("after undo() of speed " + which, before);
         }
     }
 
@@ -124,14 +126,14 @@ public final class TextsAndHistoryTest {
         lift.pass(0, 3);
         Checks.due("a person", lift.judged(0, 0), 3);
         Checks.due("a call for service", lift.door(2), 1);
-        int[] before = tellAll(lift);
+        Told before = Told.stateOf(lift);
         lift.pass(7, 7);
         lift.pass(0, 3);
         lift.serve();
         lift.undo();
         lift.undo();
         lift.undo();
-        same("after undo() of a person and serve()", tellAll(lift), before);
+        Told.stateOf(lift).mustBe("after undo() of a person and serve()", before);
         lift.undo();
         Checks.due("no person judged", lift.count(4), 0);
         Checks.due("the thing began", lift.thing(4), 3);
@@ -214,17 +216,17 @@ public final class TextsAndHistoryTest {
         Checks.due("restore() of none", lift.restore(), LiftBeams.NONE);
         lift.pass(6, 1);
         lift.setNumber(2, 4);
-        int[] before = tellAll(lift);
+        Told before = Told.stateOf(lift);
         Checks.due("keep()", lift.keep(), 16);
         lift.pass(6, 30);
         lift.pass(0, 30);
         lift.setNumber(2, 1);
         lift.setSpeed(1, Checks.bits(1.0f));
         Checks.due("restore()", lift.restore(), 16);
-        same("after restore()", tellAll(lift), before);
+        Told.stateOf(lift).mustBe("after restore()", before);
         lift.pass(1, 1);
         Checks.due("the snapshot stays", lift.restore(), 16);
-        same("after restore() again", tellAll(lift), before);
+        Told.stateOf(lift).mustBe("after restore() again", before);
     }
 
     private static void restoreIsAnAct() {
@@ -255,33 +257,6 @@ public final class TextsAndHistoryTest {
         lift.pass(7, 5);
         Checks.due("nor is it changed", lift.restore(), 1);
         Checks.due("the length", lift.thing(0), 1);
-    }
-
-    private static int[] tellAll(LiftBeams lift) {
-        int[] told = new int[60];
-        int next = 0;
-        for (int which = 0; which < 4; which++) {
-            told[next++] = Checks.bits(lift.speed(which));
-            told[next++] = Float.floatToIntBits(lift.weight(which));
-            told[next++] = Float.floatToIntBits(lift.score(which));
-        }
-        for (int which = 0; which < 5; which++) {
-            told[next++] = lift.number(which);
-            told[next++] = lift.judged(0, which);
-            told[next++] = lift.judged(1, which);
-        }
-        for (int what = 0; what < 6; what++) {
-            told[next++] = lift.door(what);
-        }
-        for (int what = 0; what < 8; what++) {
-            told[next++] = lift.thing(what);
-        }
-        for (int what = 0; what < 9; what++) {
-            told[next++] = lift.count(what);
-        }
-        told[next++] = Checks.bits(lift.place());
-        told[next++] = lift.shutsIn();
-        return told;
     }
 
     private static void same(String what, int[] got, int[] want) {

@@ -2,6 +2,7 @@
 public final class ToldTest {
     public static void main(String[] args) {
         placeIsRoundedInEachTick();
+        placeIsRoundedInEachTickOfClosing();
         scores();
         scoresByTheirFormulas();
         scoresTimesWeights();
@@ -25,7 +26,6 @@ public final class ToldTest {
     private static void placeIsRoundedInEachTick() {
         LiftBeams lift = new LiftBeams();
         lift.setSpeed(0, Checks.bits(0.7f));
-        lift.setSpeed(1, Checks.bits(1.3f));
         lift.call();
         float place = 0.0f;
         for (int tick = 0; tick < 140; tick++) {
@@ -36,14 +36,20 @@ public final class ToldTest {
         }
         lift.pass(0, 3);
         Checks.dueFloat("place() of an open door", lift.place(), 100.0f);
-        place = 100.0f;
-        for (int tick = 0; tick < 70; tick++) {
-            if (lift.door(0) == 3) {
-                place = place - 1.3f;
-            }
+    }
+
+    private static void placeIsRoundedInEachTickOfClosing() {
+        LiftBeams lift = Checks.closing();
+        lift.setSpeed(1, Checks.bits(1.3f));
+        float place = 100.0f;
+        for (int tick = 0; tick < 76; tick++) {
             lift.pass(0, 1);
+            place = place - 1.3f;
             Checks.dueFloat("place()", lift.place(), place);
+            Checks.due("the place as a whole number", lift.door(5), (int) place);
         }
+        lift.pass(0, 1);
+        Checks.dueFloat("place() of a shut door", lift.place(), 0.0f);
     }
 
     private static void scores() {
