@@ -21,6 +21,7 @@ public final class FaceTest {
         constants();
         methods();
         classAndConstructor();
+        classesInside();
         Checks.finish("FaceTest");
     }
 
@@ -64,6 +65,16 @@ public final class FaceTest {
         Checks.due("the number of constructors", constructors.length, 1);
         Checks.due("the constructor is public", constructors[0].getModifiers(), Modifier.PUBLIC);
         Checks.due("the parameters of the constructor", constructors[0].getParameterCount(), 0);
+    }
+
+    // LANGUAGE.md, rule 1: "the classes inside it, which are private or package-visible and static"
+    private static void classesInside() {
+        for (Class<?> inside : LiftBeams.class.getDeclaredClasses()) {
+            int seen = inside.getModifiers() & (Modifier.PUBLIC | Modifier.PROTECTED | Modifier.STATIC);
+            Checks.due(inside + " is static, and not seen from outside", seen, Modifier.STATIC);
+        }
+        Checks.due("the superclass is Object alone", LiftBeams.class.getSuperclass() == Object.class ? 1 : 0, 1);
+        Checks.due("the interfaces", LiftBeams.class.getInterfaces().length, 0);
     }
 
     private static String written(Method method) {

@@ -44,6 +44,7 @@ public final class PromiseEdgesTest {
         placeInAsInPass();
         forecastsWhateverTheTick();
         count();
+        countsSoFar();
         Checks.finish("PromiseEdgesTest");
     }
 
@@ -595,6 +596,43 @@ public final class PromiseEdgesTest {
         }
         for (int what : new int[] {-1, 11, 12, Integer.MIN_VALUE, Integer.MAX_VALUE}) {
             Checks.due("count " + what, lift.count(what), LiftBeams.BAD_VALUE);
+        }
+    }
+
+    // "5 .. (came to be shut), 6 for how often it opened again so far (this never becomes less)"
+    private static void countsSoFar() {
+        LiftBeams lift = Checks.quickClosing(0, 1);
+        soFar("a door that was shut at first", lift, 0, 0, 0, 0);
+        lift.pass(7, 1);
+        soFar("it opens again", lift, 0, 1, 0, 1);
+        lift.pass(0, 3);
+        Checks.due("a leaf takes it back", lift.door(1), 0);
+        soFar("behind a leaf", lift, 0, 1, 0, 1);
+        lift.pass(7, 2);
+        soFar("once more", lift, 0, 2, 0, 3);
+        lift.pass(0, 3);
+        Checks.due("the state", lift.pass(7, 1), 1);
+        soFar("and it calls for service", lift, 0, 3, 1, 4);
+        Checks.due("serve()", lift.serve(), 2);
+        Checks.due("the count is 0", lift.door(1), 0);
+        soFar("served", lift, 0, 3, 1, 4);
+        Checks.due("shut", lift.pass(0, 40), 0);
+        soFar("shut", lift, 1, 3, 1, 4);
+        lift.pass(1, 2);
+        soFar("still shut", lift, 1, 3, 1, 6);
+        // As "a state is everything but the text, the history and the snapshot", undo() brings these back too.
+        lift.undo();
+        lift.undo();
+        soFar("undo() of being shut", lift, 0, 3, 1, 4);
+        lift.undo();
+        lift.undo();
+        soFar("undo() of opening again", lift, 0, 2, 0, 3);
+    }
+
+    private static void soFar(String when, LiftBeams lift, int shut, int again, int services, int broken) {
+        int[] due = {shut, again, services, broken};
+        for (int what = 5; what <= 8; what++) {
+            Checks.due(when + ": count " + what, lift.count(what), due[what - 5]);
         }
     }
 }
